@@ -1,6 +1,7 @@
 /**
- * Proofs that hidden numbers are small, or fit an arithmetic circuit. ../shared/DOC.md says what each call does;
- * its words (heads aside) name the things here. HEADS are the elements a proof begins with: A, S or A, O, S.
+ * Proofs that hidden numbers are small, or fit an arithmetic circuit. ../shared/DOC.md says what each call does, and
+ * the things here bear the names that it gives them. It has none for the elements that a proof begins with, A and S
+ * or A, O and S: here they are its HEADS.
  */
 public final class FoldedProof {
     public static final int NONE = -1;
@@ -200,7 +201,7 @@ public final class FoldedProof {
     }
 
     private boolean hasClaim(int j) {
-        return j >= 0 && j < statement.values();
+        return j >= 0 && j < statement.valueCount();
     }
 
     private static long scalar(long number) {
@@ -422,6 +423,7 @@ public final class FoldedProof {
             lanes[place >> 3] ^= (long) b << 8 * (place & 7);
         }
 
+        /** Keccak's rounds. Theta, rho with pi, chi and iota stand in one method to keep the nesting of calls low. */
         private void permute() {
             for (int round = 0; round < ROUNDS; round++) {
                 for (int x = 0; x < 5; x++) {
@@ -481,9 +483,9 @@ public final class FoldedProof {
             return transcript;
         }
 
-        /** Tells the numbers of the proof up to the one before end, from where it was told last. */
+        /** Tells the proof's numbers, from the first one not told yet up to end - 1, and asks when it is time to. */
         void tell(Statement statement, Proof proof, int end) {
-            int foldings = statement.beforeFoldings();
+            int folded = statement.beforeFoldings();
             while (told < end) {
                 transcript.tellNumber(statement.label(told), proof.numberAt(told), Proof.NUMBER_BYTES);
                 told++;
@@ -492,11 +494,11 @@ public final class FoldedProof {
                     keep(transcript.ask("z"));
                 } else if (told == statement.elements()) {
                     keep(transcript.ask("x"));
-                } else if (told == foldings) {
+                } else if (told == folded) {
                     keep(transcript.ask("w"));
                     transcript.tellText("dom-sep", "ipp v1");
                     transcript.tellNumber("n", statement.places(), 8);
-                } else if (told > foldings && (told - foldings & 1) == 0) {
+                } else if (told > folded && (told - folded & 1) == 0) {
                     keep(transcript.ask("u"));
                 }
             }
@@ -646,7 +648,7 @@ public final class FoldedProof {
         private final Parties parties;
         private final Dialogue dialogue;
         private int span = 1;
-        private int values = 1;
+        private int valueCount = 1;
 
         Statement(Parties parties, Dialogue dialogue) {
             this.parties = parties;
@@ -691,7 +693,7 @@ public final class FoldedProof {
 
         final void become(int n, int m) {
             span = n;
-            values = m;
+            valueCount = m;
         }
 
         final Parties parties() {
@@ -706,13 +708,13 @@ public final class FoldedProof {
             return span;
         }
 
-        final int values() {
-            return values;
+        final int valueCount() {
+            return valueCount;
         }
 
         /** How many parties can be told: party 0 gives the random numbers even where there is no value. */
         final int seats() {
-            return values == 0 ? 1 : values;
+            return valueCount == 0 ? 1 : valueCount;
         }
 
         final int places() {
@@ -791,37 +793,30 @@ public final class FoldedProof {
             super(parties, dialogue);
         }
 
-        @Override
         boolean fits(int n, int m) {
             return isPowerOfTwo(n, MOST_PLACES) && isPowerOfTwo(m, MOST_PARTIES) && n * m <= MOST_PLACES;
         }
 
-        @Override
         int provers() {
-            return values();
+            return valueCount();
         }
 
-        @Override
         int heads() {
             return 2;
         }
 
-        @Override
         int ts() {
             return 2;
         }
 
-        @Override
         int headDegree(int k) {
             return k;
         }
 
-        @Override
         int tDegree(int k) {
             return k + 1;
         }
 
-        @Override
         String elementLabel(int k) {
             switch (k) {
                 case 0:
@@ -835,27 +830,23 @@ public final class FoldedProof {
             }
         }
 
-        @Override
         void introduce(Transcript transcript) {
             transcript.tellText("dom-sep", "rangeproof v1");
             transcript.tellNumber("n", span(), 8);
-            transcript.tellNumber("m", values(), 8);
-            for (int j = 0; j < values(); j++) {
+            transcript.tellNumber("m", valueCount(), 8);
+            for (int j = 0; j < valueCount(); j++) {
                 transcript.tellNumber("V", parties().claimOf(j), Proof.NUMBER_BYTES);
             }
         }
 
-        @Override
         int claimsBefore(int prover) {
             return prover;
         }
 
-        @Override
         long claimPower(int j) {
             return dialogue().z(2 + j);
         }
 
-        @Override
         long shift(int prover) {
             long ys = 0;
             for (int i = placesBefore(prover); i < placesBefore(prover + 1); i++) {
@@ -866,12 +857,10 @@ public final class FoldedProof {
             return scalar(shift - times(dialogue().z(3 + prover), ones));
         }
 
-        @Override
         long publicLeft(int degree, int i) {
             return degree == 0 ? scalar(-dialogue().z(1)) : 0;
         }
 
-        @Override
         long publicRight(int degree, int i) {
             if (degree != 0) {
                 return 0;
@@ -880,12 +869,10 @@ public final class FoldedProof {
             return (times(dialogue().z(1), dialogue().y(i)) + times(dialogue().z(2 + partyAt(i)), weight)) % Q;
         }
 
-        @Override
         long hiddenLeft(int k, int i) {
             return parties().bit(partyAt(i), bitAt(i));
         }
 
-        @Override
         long hiddenRight(int k, int i) {
             return scalar(hiddenLeft(k, i) - 1);
         }
@@ -941,7 +928,7 @@ public final class FoldedProof {
             if (c < 0 || c >= CONSTRAINTS || side < 0 || side >= SIDES || i < 0) {
                 return false;
             }
-            return i < (side == C ? 1 : side == WV ? values() : places());
+            return i < (side == C ? 1 : side == WV ? valueCount() : places());
         }
 
         void setWeight(int c, int side, int i, int by) {
@@ -957,37 +944,30 @@ public final class FoldedProof {
             return true;
         }
 
-        @Override
         boolean fits(int n, int m) {
             return isPowerOfTwo(n, MOST_MULTIPLICATIONS) && m >= 0 && m <= MOST_PARTIES;
         }
 
-        @Override
         int provers() {
             return 1;
         }
 
-        @Override
         int heads() {
             return 3;
         }
 
-        @Override
         int ts() {
             return 5;
         }
 
-        @Override
         int headDegree(int k) {
             return k + 1;
         }
 
-        @Override
         int tDegree(int k) {
             return k == 0 ? 1 : k + 2;
         }
 
-        @Override
         String elementLabel(int k) {
             switch (k) {
                 case 0:
@@ -1009,26 +989,22 @@ public final class FoldedProof {
             }
         }
 
-        @Override
         void introduce(Transcript transcript) {
             transcript.tellText("dom-sep", "r1cs v1");
-            for (int j = 0; j < values(); j++) {
+            for (int j = 0; j < valueCount(); j++) {
                 transcript.tellNumber("V", parties().claimOf(j), Proof.NUMBER_BYTES);
             }
             transcript.tellNumber("n", places(), 8);
         }
 
-        @Override
         int claimsBefore(int prover) {
-            return prover == 0 ? 0 : values();
+            return prover == 0 ? 0 : valueCount();
         }
 
-        @Override
         long claimPower(int j) {
             return times(dialogue().x(2), weighed(WV, j));
         }
 
-        @Override
         long shift(int prover) {
             long sum = weighed(C, 0);
             for (int i = 0; i < places(); i++) {
@@ -1037,12 +1013,10 @@ public final class FoldedProof {
             return times(dialogue().x(2), sum % Q);
         }
 
-        @Override
         long publicLeft(int degree, int i) {
             return degree == 1 ? times(weighed(WR, i), dialogue().yInverse(i)) : 0;
         }
 
-        @Override
         long publicRight(int degree, int i) {
             if (degree == 0) {
                 return scalar(weighed(WO, i) - dialogue().y(i));
@@ -1050,12 +1024,10 @@ public final class FoldedProof {
             return degree == 1 ? weighed(WL, i) : 0;
         }
 
-        @Override
         long hiddenLeft(int k, int i) {
             return k == 0 ? lefts[i] : productAt(i);
         }
 
-        @Override
         long hiddenRight(int k, int i) {
             return k == 0 ? rights[i] : 0;
         }
@@ -1083,7 +1055,7 @@ public final class FoldedProof {
                 sum += times(weight(WR, c, i), rights[i]);
                 sum += times(weight(WO, c, i), productAt(i));
             }
-            for (int j = 0; j < values(); j++) {
+            for (int j = 0; j < valueCount(); j++) {
                 sum -= times(weight(WV, c, j), parties().valueOf(j));
             }
             return scalar(sum);
