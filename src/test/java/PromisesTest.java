@@ -27,6 +27,7 @@ public final class PromisesTest {
         proveBlames();
         proveCircuit();
         verify();
+        verifyCarried();
         verifyMalformed();
         sizes();
         byteAt();
@@ -450,6 +451,17 @@ public final class PromisesTest {
             x.spoil(2, what, 2);
             DUE.is("spoilt " + what + ", by much, back", x.prove(), 0);
         }
+        Reference due = new Reference();
+        due.shape(0, 4, 1);
+        due.party(0, 9, 1000, 2000);
+        FoldedProof one = range(4, 9);
+        for (int what = 0; what < 5; what++) {
+            one.spoil(0, what, 10 + what);
+            due.spoil(0, what, 10 + what);
+        }
+        one.prove();
+        due.prove();
+        sameProof("spoilt all over", one, due);
         FoldedProof x = range(4, 9, 10);
         DUE.refused("spoil(-1, ..)", () -> x.spoil(-1, 0, 1));
         DUE.refused("spoil(2, ..)", () -> x.spoil(2, 0, 1));
@@ -575,14 +587,7 @@ public final class PromisesTest {
         type(x, "a");
         DUE.is("another text", x.verify(), 2);
         DUE.is("it is empty then", x.verify(), 0);
-        for (int k = 0; k < x.size() / 4; k++) {
-            long old = number(x, k);
-            boolean isScalar = k >= 4 && k < 7 || k >= 15;
-            putNumber(x, k, isScalar ? (old + 1) % Q : old * 4 % P);
-            // t, tb and what makes y, z or x bears on FIRST; the rest on SECOND alone.
-            DUE.is("number " + k + " altered", x.verify(), k < 6 ? 2 : 3);
-            putNumber(x, k, old);
-        }
+        alterEach("range", x, 4);
         DUE.yes("mended", proof.equals(bytes(x)));
         DUE.is("right as before", x.verify(), 0);
         x.party(0, 201, 1000, 2000);
@@ -590,19 +595,51 @@ public final class PromisesTest {
         FoldedProof y = circuit();
         y.prove();
         DUE.is("circuit", y.verify(), 0);
-        for (int k = 0; k < y.size() / 4; k++) {
-            long old = number(y, k);
-            boolean isScalar = k >= 8 && k < 11 || k >= 13;
-            putNumber(y, k, isScalar ? (old + 1) % Q : old * 4 % P);
-            DUE.is("circuit, number " + k + " altered", y.verify(), k < 10 ? 2 : 3);
-            putNumber(y, k, old);
-        }
+        alterEach("circuit", y, 8);
         y.multiply(0, 1, 1);
         DUE.is("what is hidden doesn't matter to the check", y.verify(), 0);
         y.weigh(5, 0, 1, 1);
         DUE.is("the constraints do: WL is in BASE, and in d only beside a WR", y.verify(), 3);
         y.weigh(5, 4, 0, 1);
         DUE.is("C is in d", y.verify(), 2);
+    }
+
+    /** Puts another element or scalar in the place of each number in turn. */
+    private static void alterEach(String what, FoldedProof x, int elements) {
+        int numbers = x.size() / 4;
+        for (int k = 0; k < numbers; k++) {
+            long old = number(x, k);
+            boolean isScalar = k >= elements && k < elements + 3 || k >= numbers - 2;
+            putNumber(x, k, isScalar ? (old + 1) % Q : old * 4 % P);
+            // t, tb and what makes y, z or x bears on FIRST; the rest on SECOND alone.
+            DUE.is(what + ", number " + k + " altered", x.verify(), k < elements + 2 ? 2 : 3);
+            putNumber(x, k, old);
+        }
+    }
+
+    /** Who checks need not be who proved: the claims and the proof are enough. */
+    private static void verifyCarried() {
+        FoldedProof[] provers = {range(8, 200, 3), range(1, 1), range(32, 77), circuit(), shaped(1, 8, 0)};
+        FoldedProof[] checkers = {shaped(0, 8, 2), shaped(0, 1, 1), shaped(0, 32, 1), circuit(), shaped(1, 8, 0)};
+        checkers[3].party(0, 1, 1, 1);
+        checkers[3].party(1, 1, 1, 1);
+        checkers[3].multiply(0, 1, 1);
+        for (int k = 0; k < provers.length; k++) {
+            provers[k].party(0, provers[k].claimed(0) == -1 ? 0 : k == 3 ? 42 : 1, 31, 32);
+            type(provers[k], "carried");
+            provers[k].prove();
+            // A proof of its own gives the checker the bytes to be overwritten, and leaves other numbers behind.
+            checkers[k].prove();
+            for (int b = 0; b < provers[k].size(); b++) {
+                checkers[k].change(b, provers[k].byteAt(b));
+            }
+            for (int j = 0; provers[k].claimed(j) != -1; j++) {
+                checkers[k].claim(j, provers[k].claimed(j));
+            }
+            type(checkers[k], "carried");
+            DUE.is("carried over, " + k, checkers[k].verify(), 0);
+            DUE.is("without the text, " + k, checkers[k].verify(), 2);
+        }
     }
 
     private static void verifyMalformed() {

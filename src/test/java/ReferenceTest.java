@@ -1,6 +1,6 @@
 import java.security.MessageDigest;
 
-/** Whether the reference itself is right: Keccak against the library's SHA3, the transcript against Merlin's own test. */
+/** Whether the reference is right: its Keccak against the library's SHA3, its transcript against Merlin's own test. */
 public final class ReferenceTest {
     private ReferenceTest() {
     }
