@@ -2,12 +2,18 @@
 final class Due {
     private int wrong;
     private int asked;
+    private String sentence = "";
+
+    /** Names the document's sentence that the answers from now on are for. */
+    void sentence(String words) {
+        sentence = words + ": ";
+    }
 
     void is(String what, long got, long want) {
         asked++;
         if (got != want) {
             wrong++;
-            System.out.println(what + " answered " + got + ", due is " + want);
+            System.out.println(sentence + what + " answered " + got + ", due is " + want);
         }
     }
 
@@ -20,11 +26,15 @@ final class Due {
     }
 
     void refused(String what, Runnable call) {
-        is(what + " throws IllegalArgumentException", isRefused(call) ? 1 : 0, 1);
+        refusedOr(what, call, true);
     }
 
     void taken(String what, Runnable call) {
-        is(what + " throws IllegalArgumentException", isRefused(call) ? 1 : 0, 0);
+        refusedOr(what, call, false);
+    }
+
+    void refusedOr(String what, Runnable call, boolean refused) {
+        is(what + " throws IllegalArgumentException", isRefused(call) ? 1 : 0, refused ? 1 : 0);
     }
 
     static boolean isRefused(Runnable call) {

@@ -40,6 +40,10 @@ final class Reference {
         clear();
     }
 
+    Reference(int kind, int n, int m) {
+        shape(kind, n, m);
+    }
+
     private void clear() {
         given = new int[4];
         v = zeros(4);
