@@ -142,6 +142,11 @@ public final class TermsTest {
         due.party(0, 3, 1000, 2000);
         isRight("a folding whose u is 0", 4, range, due, 1929846083, 1467950448, 1371586102, 989707598, 115264267,
             724213005, 863762635, 9, 1864656413, 5, 505036794);
+        Given.type(range, "mwyrgyh");
+        due.text = "mwyrgyh";
+        DUE.is("a proof whose y is 0: prove()", range.prove(), due.prove());
+        DUE.is("a proof whose y is 0: challenge(0)", range.challenge(0), 0);
+        DUE.yes("a proof whose y is 0", Given.sameProof(range, due));
     }
 
     /** Puts the numbers in the place of a proof's: the challenge is 0, and the proof right. */
