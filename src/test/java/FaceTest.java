@@ -26,7 +26,10 @@ public final class FaceTest {
             if (Modifier.isPrivate(method.getModifiers())) {
                 hidden.add(method.getName());
             } else {
-                due.yes(method.getName() + " is public", Modifier.isPublic(method.getModifiers()));
+                due.is(method.getName() + " is public and no more", method.getModifiers(), Modifier.PUBLIC);
+                String told = method.getReturnType() == void.class ? "[" + IllegalArgumentException.class + "]" : "[]";
+                due.yes(method.getName() + " throws what its face says",
+                    Arrays.toString(method.getExceptionTypes()).equals(told));
                 String inside = Arrays.toString(method.getParameterTypes()).replace("[", "(").replace("]", ")");
                 shown.add(method.getReturnType() + " " + method.getName() + inside);
             }
@@ -42,7 +45,9 @@ public final class FaceTest {
             && constructors[0].getParameterCount() == 0);
         for (Field field : FoldedProof.class.getDeclaredFields()) {
             boolean isPrivate = Modifier.isPrivate(field.getModifiers());
-            due.yes("field " + field.getName(), isPrivate || field.getName().equals("NONE"));
+            due.yes("field " + field.getName(), isPrivate || field.getName().equals("NONE")
+                && field.getModifiers() == (Modifier.PUBLIC | Modifier.STATIC | Modifier.FINAL)
+                && field.getType() == int.class);
         }
         for (Class<?> inside : FoldedProof.class.getDeclaredClasses()) {
             due.yes(inside.getName() + " is private", Modifier.isPrivate(inside.getModifiers()));
